@@ -823,7 +823,7 @@ public final class BentPictures {
             int count = 0;
             for (int e = 0; e < MOST_EYES; e++) {
                 for (int cell = 0; cell < board.cells; cell++) {
-                    if (isWish(set, e, cell) && (what == 0 || fateOf(e, cell) == what)) {
+                    if (isWish(set, e, cell) && (what == 0 || fateOf(look(e, cell), pictures[e][cell]) == what)) {
                         count++;
                     }
                 }
@@ -831,12 +831,11 @@ public final class BentPictures {
             return count;
         }
 
-        private int fateOf(int e, int cell) {
-            int end = look(e, cell);
+        private int fateOf(int end, int colour) {
             if (end == NONE) {
                 return 2;
             }
-            return space.colourOf(end) == pictures[e][cell] ? 1 : 3;
+            return space.colourOf(end) == colour ? 1 : 3;
         }
 
         void paintFor(int set) {

@@ -16,6 +16,7 @@ public final class LightTest {
         mays();
         fewestHoles();
         leastRow();
+        sixHours();
         fewestEdges();
         fewColours();
         Due.end();
@@ -270,6 +271,37 @@ public final class LightTest {
         for (int cell = 0; cell < 6; cell++) {
             Due.is("25: hole(" + cell + ")", x.hole(cell), then[cell]);
         }
+    }
+
+    private static void sixHours() {
+        BentPictures x = new BentPictures();
+        // A HOLE lights its own CELL of SURFACE 0 at HOURS 0 .. 4; a MIRROR gives both the same at HOUR 5.
+        x.surface(0, 2, 10, 0, 0, 2, 1);
+        x.surface(0, 2, 8, 0, 0, 2, 1);
+        x.surface(1, 0, 2, 0, 6, 8, 8);
+        x.plate(1);
+        for (int h = 0; h < 5; h++) {
+            x.hour(0, 0, 1 + h);
+        }
+        x.hour(4, 0, 8);
+        Due.is("22: lit(4, 0)", x.lit(4, 0), 0);
+        Due.is("22: lit(5, 0)", x.lit(5, 0), 1);
+        Due.is("22: lit(5, 1)", x.lit(5, 1), 1);
+        for (int h = 0; h < 5; h++) {
+            x.want(h, 0, 0, true);
+            x.want(h, 0, 1, true);
+        }
+        Due.is("24: not WANTED at HOUR 5", x.fewest(), BentPictures.NONE);
+        x.want(5, 0, 1, true);
+        Due.is("24: both", x.fewest(), 2);
+        x.want(4, 0, 0, false);
+        Due.is("24: one MAY not be", x.fewest(), BentPictures.NONE);
+        for (int h = 0; h < 4; h++) {
+            x.want(h, 0, 0, false);
+        }
+        Due.is("24: the other does", x.fewest(), 1);
+        Due.is("25: the other", x.hole(1), 1);
+        Due.is("25: not the one", x.hole(0), 0);
     }
 
     private static void fewestEdges() {

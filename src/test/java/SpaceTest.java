@@ -136,7 +136,7 @@ public final class SpaceTest {
         Due.is("6: of nothing", x.picture(0, 0, 2, 0), -11);
         Due.is("6: fault()", x.fault(), 1);
         x.sheet(0, 0, 7);
-        int[] colours = {9, 0, 1, 0, 2, 10, -1};
+        int[] colours = {9, 0, 1, 3, 2, 10, -1};
         for (int i = 0; i < 7; i++) {
             x.put(0, i, colours[i]);
         }
@@ -156,11 +156,13 @@ public final class SpaceTest {
         Due.is("6: COLOUR below", x.picture(0, 0, 0, 3), BentPictures.OUTSIDE);
         Due.is("6: fault()", x.fault(), 0);
         Due.is("6: COLOUR above", x.picture(0, 0, 0, 2), BentPictures.OUTSIDE);
-        Due.is("6: picture(0, 0, 0, 0)", x.picture(0, 0, 0, 0), 2);
-        Due.is("6: picture(1, 0, 0, 1)", x.picture(1, 0, 0, 1), 2);
+        Due.is("6: picture(0, 0, 0, 0)", x.picture(0, 0, 0, 0), 3);
+        Due.is("6: picture(1, 0, 0, 1)", x.picture(1, 0, 0, 1), 3);
         Due.is("6: a COLOUR is wrong: nothing changes", x.picture(0, 0, 0, 2), BentPictures.OUTSIDE);
+        x.put(0, 0, -1);
+        Due.is("6: the first COLOUR is wrong", x.picture(0, 0, 0, 0), BentPictures.OUTSIDE);
         x.put(0, 0, 8);
-        int[] due = {9, 0, 1, 0};
+        int[] due = {9, 0, 1, 3};
         for (int cell = 0; cell < 4; cell++) {
             Due.is("7: wish(0, " + cell + ")", x.wish(0, cell), due[cell]);
         }
