@@ -14,8 +14,8 @@ public final class RandomRunsTest {
         WANT = 18, WANTED = 19, LIT = 20, MAY = 21, FEWEST = 22, HOLE = 23, FEW = 24, SHEET = 25, PUT = 27, MANY = 34;
 
     private final Random random;
-    private final BentPictures program = new BentPictures();
-    private final Reference reference = new Reference();
+    private final Calls program = new Calls(new BentPictures());
+    private final Calls reference = new Calls(new Reference());
     private final Deque<String> latest = new ArrayDeque<>();
     private final TreeMap<String, Integer> answers;
     private final int run;
@@ -77,13 +77,9 @@ public final class RandomRunsTest {
             return 0;
         }
         calls++;
-        StringBuilder text = new StringBuilder(NAMES[method]).append('(');
-        for (int k = 0; k < a.length; k++) {
-            text.append(k == 0 ? "" : ", ").append(a[k]);
-        }
-        long got = ofProgram(method, a);
-        long due = ofReference(method, a);
-        latest.add(text + ") " + due);
+        long got = program.call(NAMES[method], a);
+        long due = reference.call(NAMES[method], a);
+        latest.add(Calls.text(NAMES[method], a) + " " + due);
         if (latest.size() > 12) {
             latest.remove();
         }
@@ -91,88 +87,6 @@ public final class RandomRunsTest {
         answers.merge(NAMES[method] + (end ? " end" : " " + due), 1, Integer::sum);
         Due.is("run " + run + ", call " + calls + " " + (got == due ? "" : latest.toString()), got, due);
         return due;
-    }
-
-    private long ofProgram(int method, int[] a) {
-        BentPictures x = program;
-        return switch (method) {
-            case 0 -> x.surface(a[0], a[1], a[2], a[3], a[4], a[5], a[6]);
-            case 1 -> x.about(a[0], a[1]);
-            case 2 -> x.board(a[0], a[1], a[2], a[3], a[4], a[5]);
-            case 3 -> x.eye(a[0], a[1], a[2], a[3]);
-            case 4 -> x.picture(a[0], a[1], a[2], a[3]);
-            case 5 -> x.wish(a[0], a[1]);
-            case 6 -> x.paint(a[0], a[1], a[2]);
-            case 7 -> x.colour(a[0], a[1]);
-            case 8 -> x.ray(a[0], a[1], a[2], a[3], a[4], a[5]);
-            case 9 -> x.bounces(a[0], a[1], a[2], a[3], a[4], a[5]);
-            case 10 -> x.seen(a[0], a[1]);
-            case 11 -> x.wishes(a[0], a[1]);
-            case 12 -> x.painting(a[0]);
-            case 13 -> x.wash();
-            case 14 -> x.idle(a[0]);
-            case 15 -> x.sway(a[0], a[1], a[2]);
-            case 16 -> x.hour(a[0], a[1], a[2]);
-            case 17 -> x.plate(a[0]);
-            case 18 -> x.want(a[0], a[1], a[2], a[3] != 0);
-            case 19 -> x.wanted(a[0], a[1], a[2], a[3], a[4]);
-            case 20 -> x.lit(a[0], a[1]);
-            case 21 -> x.may(a[0]);
-            case 22 -> x.fewest();
-            case 23 -> x.hole(a[0]);
-            case 24 -> x.few(a[0], a[1]);
-            case 25 -> x.sheet(a[0], a[1], a[2]);
-            case 26 -> x.lose(a[0]);
-            case 27 -> x.put(a[0], a[1], a[2]);
-            case 28 -> x.at(a[0], a[1], a[2]);
-            case 29 -> x.tell(a[0]);
-            case 30 -> x.name(a[0]);
-            case 31 -> x.as(a[0], a[1]);
-            case 32 -> x.trace();
-            case 33 -> x.fault();
-            default -> x.many(a[0]);
-        };
-    }
-
-    private long ofReference(int method, int[] a) {
-        Reference x = reference;
-        return switch (method) {
-            case 0 -> x.surface(a[0], a[1], a[2], a[3], a[4], a[5], a[6]);
-            case 1 -> x.about(a[0], a[1]);
-            case 2 -> x.board(a[0], a[1], a[2], a[3], a[4], a[5]);
-            case 3 -> x.eye(a[0], a[1], a[2], a[3]);
-            case 4 -> x.picture(a[0], a[1], a[2], a[3]);
-            case 5 -> x.wish(a[0], a[1]);
-            case 6 -> x.paint(a[0], a[1], a[2]);
-            case 7 -> x.colour(a[0], a[1]);
-            case 8 -> x.ray(a[0], a[1], a[2], a[3], a[4], a[5]);
-            case 9 -> x.bounces(a[0], a[1], a[2], a[3], a[4], a[5]);
-            case 10 -> x.seen(a[0], a[1]);
-            case 11 -> x.wishes(a[0], a[1]);
-            case 12 -> x.painting(a[0]);
-            case 13 -> x.wash();
-            case 14 -> x.idle(a[0]);
-            case 15 -> x.sway(a[0], a[1], a[2]);
-            case 16 -> x.hour(a[0], a[1], a[2]);
-            case 17 -> x.plate(a[0]);
-            case 18 -> x.want(a[0], a[1], a[2], a[3] != 0);
-            case 19 -> x.wanted(a[0], a[1], a[2], a[3], a[4]);
-            case 20 -> x.lit(a[0], a[1]);
-            case 21 -> x.may(a[0]);
-            case 22 -> x.fewest();
-            case 23 -> x.hole(a[0]);
-            case 24 -> x.few(a[0], a[1]);
-            case 25 -> x.sheet(a[0], a[1], a[2]);
-            case 26 -> x.lose(a[0]);
-            case 27 -> x.put(a[0], a[1], a[2]);
-            case 28 -> x.at(a[0], a[1], a[2]);
-            case 29 -> x.tell(a[0]);
-            case 30 -> x.name(a[0]);
-            case 31 -> x.as(a[0], a[1]);
-            case 32 -> x.trace();
-            case 33 -> x.fault();
-            default -> x.many(a[0]);
-        };
     }
 
     /** Any call with numbers in range for the most part. */
