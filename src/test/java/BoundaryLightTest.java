@@ -132,6 +132,15 @@ public final class BoundaryLightTest {
             x.due(0, "want", 0, 0, 63, 1).due(0, "want", 0, 1, 0, 1).due(1, "wanted", 0, 0, 2, 4, 1);
             x.due(2, "many", 5).due(0, "want", 0, 1, 0, 0).due(2, "wanted", 0, 0, 2, 2, 2);
         });
+        Sentence.holds(21, "WANTED of an HOUR come by cells of a SHEET, taken as a row of a LANE", x -> {
+            // What happens to the SHEET later is no matter; a byte or a short does as well as an int.
+            for (int lane = 0; lane < 3; lane++) {
+                Run y = stocked(x.another()).rowOf(lane, lane, 0, 63, 2, 3).due(2, "wanted", 1, lane, lane, 0, 2);
+                y.does("put", lane, 1, 0).does("lose", lane).due(0, "want", 1, 0, 63, 1).due(0, "want", 1, 2, 3, 1);
+                y.due(0, "want", 1, 0, 0, 0).due(0, "want", 0, 0, 63, 0).due(2, "many", 5);
+            }
+            x.due(UNKNOWN, "wanted", 0, 0, 0, 0, 0);
+        });
         Sentence.holds(21, "n of them from i on (others go)", x -> {
             // None of them is none; then all others go.
             stocked(x).row(0, 0, 0).does("want", 0, 0, 0, 1).does("want", 0, 2, 3, 1).does("want", 1, 0, 0, 1);

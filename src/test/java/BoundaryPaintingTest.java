@@ -81,6 +81,16 @@ public final class BoundaryPaintingTest {
             x.does("paint", 0, 1, 9).due(1, "wishes", 1, 1).due(2, "wishes", 1, 2).due(1, "wishes", 1, 3);
             x.does("paint", 0, 1, 2).due(2, "wishes", 1, 1).due(2, "wishes", 1, 2).due(0, "wishes", 1, 3);
         });
+        Sentence.holds(13, "how many (what 0), MET (1), BLIND (2), MISSED (3).", x -> {
+            // One MET, two BLIND, three MISSED of six; of two EYES at once twice that.
+            x.does("surface", 0, 2, 10, 4, 4, 4, 1).does("board", 2, 10, 4, 4, 6, 1).does("paint", 0, 0, 1);
+            x.does("eye", 0, 4, 4, 0).does("eye", 3, 5, 5, 40).show(0, 1, 2, 3, 4, 5, 6).show(3, 1, 2, 3, 4, 5, 6);
+            int[] due = {6, 1, 2, 3};
+            for (int what = 0; what < 4; what++) {
+                x.due(due[what], "wishes", 1, what).due(due[what], "wishes", 8, what).due(2 * due[what], "wishes", 9, what);
+                x.due(0, "wishes", 6, what).due(0, "wishes", 0, what).due(2 * due[what], "wishes", 15, what);
+            }
+        });
         Sentence.holds(13, "BLIND: nothing is SEEN", x -> {
             x.does("board", 2, 10, 4, 4, 8, 8).row(0, new int[64]);
             x.does("put", 0, 0, 1).does("put", 0, 63, 9).does("picture", 2, 0, 2, 0);

@@ -14,6 +14,7 @@ public final class BoundarySpaceTest {
 
     static void all() {
         newObject();
+        wholeObject();
         surfaceNumbers();
         surfaceKinds();
         about();
@@ -57,6 +58,37 @@ public final class BoundarySpaceTest {
                 x.due(0, "wish", e, 0);
             }
             x.due(UNKNOWN, "wish", -1, 0).due(UNKNOWN, "wish", 4, 0).due(0, "wishes", 15, 0);
+        });
+    }
+
+    private static void wholeObject() {
+        Sentence.holds(1, "UNKNOWN = -1, OUTSIDE = -2, STATE = -3, FULL = -4, SPENT = -6, NONE = -9", x -> {
+            x.due(-1, "about", 0, 0).due(-2, "many", 6).due(-3, "fewest").due(-9, "plate", -1);
+            for (int s = 0; s < 10; s++) {
+                x.does("surface", 0, 0, 0, 0, 0, 8, 8);
+            }
+            x.due(-4, "surface", 0, 0, 0, 0, 0, 1, 1).does("plate", 0).due(-6, "fewest");
+            x.due(Long.MIN_VALUE, "at", 0, 0, 0).due(Long.MIN_VALUE, "at", 4, 0, 0);
+        });
+        Sentence.holds(1, "An object is used for at most 512 calls after it has been made", x -> {
+            // The last of them is answered as the first; what takes the most room goes on all the time.
+            x.does("surface", 2, 2, 0, 0, 0, 8, 8).does("hour", 1, 1, 1);
+            while (x.callsMade() < 508) {
+                x.due(64, "board", 2, 20, 0, 0, 8, 8).due(1, "sheet", 0, 2, 64);
+            }
+            x.due(0, "picture", 0, 0, 2, 0).due(1, "put", 0, 63, 9).due(1, "picture", 0, 0, 2, 0).due(9, "wish", 0, 63);
+        });
+        Sentence.holds(1, "`BentPictures()`: No SURFACES, HOURS, PLATE, SHEETS; THE BOARD of one CELL.", x -> {
+            // Another object has nothing of the first one's, nor does the first one lose anything by it.
+            x.does("surface", 0, 0, 0, 0, 0, 2, 2).does("plate", 0).does("hour", 1, 0, 0).does("want", 0, 0, 0, 1);
+            x.does("board", 0, 0, 0, 0, 2, 1).show(0, 1, 2).does("tell", 0).due(-13, "put", 3, 2, 0);
+            Run other = x.another().due(0, "fault").due(0, "trace").due(NONE, "plate", -1).due(0, "lose", 3);
+            int[] due = {0, 0, 1, 0, 0, 0};
+            for (int what = 0; what < 6; what++) {
+                other.due(due[what], "many", what);
+            }
+            other.due(0, "wish", 0, 0).due(UNKNOWN, "wish", 0, 1);
+            x.due(3, "fault").due(1, "trace").due(2, "wish", 0, 1).due(1, "many", 5).due(1, "lose", 3).due(0, "plate", -1);
         });
     }
 
@@ -235,6 +267,12 @@ public final class BoundarySpaceTest {
             x.due(3, "picture", 1, 0, 2, 2).due(0, "wish", 1, 0).due(5, "wish", 1, 3);
             x.due(-13, "picture", 1, 0, 2, 3);
         });
+        Sentence.holds(6, "The PICTURE of an EYE becomes cells of a SHEET, taken as a row of a LANE", x -> {
+            // What happens to the SHEET later is no matter, and the PICTURE of another EYE is another.
+            x.row(0, 5).due(1, "picture", 0, 0, 2, 0).does("put", 0, 0, 6).due(5, "wish", 0, 0);
+            x.due(1, "picture", 3, 0, 2, 0).does("lose", 0).due(5, "wish", 0, 0).due(6, "wish", 3, 0).due(0, "wish", 1, 0);
+            x.does("sheet", 0, 2, 1).due(0, "picture", 3, 0, 2, 0).due(0, "wish", 3, 0).due(5, "wish", 0, 0);
+        });
         Sentence.holds(6, "one for each CELL", x -> {
             // The most of both: a BOARD of 64 CELLS, a SHEET of 64 cells.
             int[] colours = new int[64];
@@ -403,6 +441,14 @@ public final class BoundarySpaceTest {
             x.due(0, "ray", 0, 1, 3, 10, 1, 0).due(NONE, "ray", 0, 1, 3, 99, 9, 0);
             x.due(0, "ray", 0, 2, 2, 10, 0, 1).due(NONE, "ray", 0, 2, 2, 99, 0, 9);
             x.due(NONE, "ray", 0, 5, 3, 10, 1, 0).due(3, "ray", 0, 5, 3, 99, 9, 0);
+        });
+        Sentence.holds(10, "and is in a CELL of it then", x -> {
+            // It goes by a near FLAT to a far one, if it is beside the near one when it has that one's c.
+            x.does("surface", 0, 0, 10, 2, 2, 1, 1).does("surface", 0, 0, 20, 0, 0, 8, 8);
+            x.due(0, "ray", 0, 2, 2, 1, 0, 0).due(119, "ray", 0, 3, 2, 1, 0, 0).due(126, "ray", 0, 2, 3, 1, 0, 0);
+            x.due(110, "ray", 0, 2, 1, 1, 0, 0).due(117, "ray", 0, 1, 2, 1, 0, 0).due(0, "ray", 0, 3, 3, 99, -1, -1);
+            // At x 10 it is at (2, 2) exactly, at x 20 at (4, 4).
+            x.due(0, "ray", 0, 0, 0, 5, 1, 1).due(136, "ray", 10, 2, 2, 5, 1, 1).due(NONE, "ray", 0, 0, 0, 2, 1, 1);
         });
         Sentence.holds(10, "it has w h CELLS, numbered w j + i (i along the first, j along the second)", x -> {
             // Across each AXIS a FLAT of 2 by 3 from 10, 20; the RAY goes along that AXIS.
