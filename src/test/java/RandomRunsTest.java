@@ -20,6 +20,8 @@ public final class RandomRunsTest {
     private final TreeMap<String, Integer> answers;
     private final int run;
     private int calls = 0;
+    /** One number of so many is the one ahead of its range, one that after it, one far away. */
+    private int oddity = 40;
 
     private RandomRunsTest(int run, TreeMap<String, Integer> answers) {
         this.run = run;
@@ -38,6 +40,9 @@ public final class RandomRunsTest {
                 case 2 -> test.gallery();
                 default -> test.darkroom();
             }
+        }
+        for (int run = 0; run < runs / 8; run++) {
+            new RandomRunsTest(runs + run, answers).farNumbers();
         }
         // A run that never comes to these would test little.
         String[] needed = {"bounces 3", "bounces 2", "ray end", "fewest 0", "fewest 2", "fewest 3", "fewest 4",
@@ -58,7 +63,7 @@ public final class RandomRunsTest {
 
     /** Mostly in range, now and then beside it or far away. */
     private int about(int from, int to) {
-        int kind = random.nextInt(40);
+        int kind = random.nextInt(oddity);
         if (kind == 0) {
             return from - 1;
         }
@@ -66,7 +71,8 @@ public final class RandomRunsTest {
             return to + 1;
         }
         if (kind == 2) {
-            int[] far = {Integer.MIN_VALUE, Integer.MAX_VALUE, Integer.MIN_VALUE + 1, 1 << 30, 1 << 31 - 2, -100, 100};
+            int[] far = {Integer.MIN_VALUE, Integer.MAX_VALUE, Integer.MIN_VALUE + 1, Integer.MAX_VALUE - 7, 1 << 30,
+                3 << 29, -1 << 30, 1 << 16, -1 << 16, 255, 256, -100, 100, -64, 63, 64, 65};
             return far[random.nextInt(far.length)];
         }
         return any(from, to);
@@ -125,6 +131,17 @@ public final class RandomRunsTest {
 
     private void anything() {
         for (int k = 0; k < 512; k++) {
+            anyCall();
+        }
+    }
+
+    /** First something of everything, then calls of which the most have some number that is beside its range. */
+    private void farNumbers() {
+        for (int k = 0; k < 200; k++) {
+            anyCall();
+        }
+        oddity = 8;
+        while (calls < 512) {
             anyCall();
         }
     }
