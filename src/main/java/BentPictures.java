@@ -609,7 +609,8 @@ public final class BentPictures {
         int countCells() {
             int count = 0;
             for (int s = 0; s < surfaces; s++) {
-                count += walls[s].flat.cells;
+                Wall wall = wall(s);
+                count += wall == null ? 0 : wall.flat.cells;
             }
             return count;
         }
@@ -617,9 +618,8 @@ public final class BentPictures {
         int countTakers() {
             int count = 0;
             for (int s = 0; s < surfaces; s++) {
-                if (walls[s].takesColours()) {
-                    count += walls[s].flat.cells;
-                }
+                Wall wall = wall(s);
+                count += wall != null && wall.takesColours() ? wall.flat.cells : 0;
             }
             return count;
         }
@@ -627,14 +627,18 @@ public final class BentPictures {
         int notBare() {
             int count = 0;
             for (int s = 0; s < surfaces; s++) {
-                count += walls[s].notBare();
+                Wall wall = wall(s);
+                count += wall == null ? 0 : wall.notBare();
             }
             return count;
         }
 
         void becomeBare() {
             for (int s = 0; s < surfaces; s++) {
-                Arrays.fill(walls[s].colours, 0);
+                Wall wall = wall(s);
+                if (wall != null) {
+                    Arrays.fill(wall.colours, 0);
+                }
             }
         }
     }
@@ -677,7 +681,7 @@ public final class BentPictures {
             for (int leg = 0; leg <= MOST_THROWS; leg++) {
                 next = null;
                 for (int s = 0; s < space.surfaces; s++) {
-                    Wall wall = space.walls[s];
+                    Wall wall = space.wall(s);
                     if (s != leftOut && wall != null) {
                         consider(wall);
                     }

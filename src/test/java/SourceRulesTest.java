@@ -1,18 +1,27 @@
 import java.io.IOException;
+import java.io.InputStream;
 import java.lang.reflect.Constructor;
 import java.lang.reflect.Field;
 import java.lang.reflect.Method;
 import java.lang.reflect.Modifier;
+import java.nio.charset.StandardCharsets;
 import java.nio.file.Files;
 import java.nio.file.Path;
+import java.util.ArrayList;
+import java.util.List;
+import java.util.Set;
 import java.util.TreeSet;
 import java.util.regex.Matcher;
 import java.util.regex.Pattern;
 
 /** The rules of LANGUAGE.md that can be read off the source, and the face that the document tells. */
 public final class SourceRulesTest {
-    private static final String[] FORBIDDEN = {"throw", "try", "catch", "synchronized", "assert", "->", "::", "Exact",
+    private static final String[] FORBIDDEN = {"throw", "try", "catch", "synchronized", "assert", "->", "::",
         "System.out", "System.exit", "Random", "Thread", "nanoTime", "currentTime", "@"};
+    /** What the class files may name of the library; the program needs no more than this of what the rules allow. */
+    private static final Set<String> LIBRARY = Set.of("java/lang/Object", "java/lang/Math", "java/lang/Integer",
+        "java/lang/Long", "java/lang/String", "java/lang/StringBuilder", "java/util/Arrays", "java/util/ArrayList",
+        "java/util/List", "java/util/Iterator");
 
     private SourceRulesTest() {
     }
@@ -25,7 +34,10 @@ public final class SourceRulesTest {
             boolean found = Pattern.compile(border + Pattern.quote(word) + border).matcher(code).find();
             Due.is("6: the source has " + word, found ? 1 : 0, 0);
         }
+        Due.is("4: the source has a function that ends in Exact", code.contains("Exact(") ? 1 : 0, 0);
+        Due.is("3: signs 1 to 127 alone", source.chars().allMatch(sign -> sign > 0 && sign < 128) ? 1 : 0, 1);
         imports(code);
+        library();
         classes(code);
         methods(code);
         face();
@@ -36,6 +48,21 @@ public final class SourceRulesTest {
         Matcher line = Pattern.compile("import ([^;]*);").matcher(code);
         while (line.find()) {
             Due.is("4: import of " + line.group(1), line.group(1).equals("java.util.Arrays") ? 1 : 0, 1);
+        }
+    }
+
+    /** Names of classes stand in a class file as they are; a descriptor has an L ahead of them. */
+    private static void library() throws IOException {
+        Pattern name = Pattern.compile("(?:java|javax|jdk|sun|com)/[\\w/$]+");
+        List<Class<?>> all = new ArrayList<>(List.of(BentPictures.class.getDeclaredClasses()));
+        all.add(BentPictures.class);
+        for (Class<?> one : all) {
+            try (InputStream file = one.getResourceAsStream(one.getName() + ".class")) {
+                Matcher found = name.matcher(new String(file.readAllBytes(), StandardCharsets.ISO_8859_1));
+                while (found.find()) {
+                    Due.is("4: " + one + " uses " + found.group(), LIBRARY.contains(found.group()) ? 1 : 0, 1);
+                }
+            }
         }
     }
 
